@@ -1,0 +1,101 @@
+import java.lang.reflect.InvocationTargetException;
+import java.lang.reflect.Method;
+import java.util.Arrays;
+import java.util.Comparator;
+
+/** What the tests share: checks that count, and a run of all test methods of a class. */
+final class Checks {
+    private static int checks = 0;
+    private static int wrong = 0;
+
+    private Checks() {
+    }
+
+    /** A call that answers a number, and may throw. */
+    interface Call {
+        long answer();
+    }
+
+    static void due(String call, long got, long want) {
+        checks++;
+        if (got != want) {
+            tell(call + " answered " + got + ", due is " + want);
+        }
+    }
+
+    static void due(String call, boolean got, boolean want) {
+        due(call, got ? 1 : 0, want ? 1 : 0);
+    }
+
+    static void dueDouble(String call, double got, double want) {
+        checks++;
+        if (got != want) {
+            tell(call + " answered " + got + ", due is " + want);
+        }
+    }
+
+    static void dueThrow(String call, Class<? extends RuntimeException> want, Call called) {
+        checks++;
+        try {
+            tell(call + " answered " + called.answer() + ", due is " + want.getSimpleName());
+        } catch (RuntimeException thrown) {
+            if (thrown.getClass() != want) {
+                tell(call + " threw " + thrown + ", due is " + want.getSimpleName());
+            }
+        }
+    }
+
+    static void tell(String text) {
+        wrong++;
+        StackTraceElement[] trace = new Throwable().getStackTrace();
+        for (StackTraceElement place : trace) {
+            if (!place.getClassName().startsWith("Checks")) {
+                System.out.println("  " + place.getClassName() + "." + place.getMethodName()
+                    + " line " + place.getLineNumber() + ": " + text);
+                return;
+            }
+        }
+        System.out.println("  " + text);
+    }
+
+    /** Runs all methods of the class whose names begin with promise, and ends with 1 if one fails. */
+    static void runAll(Class<?> tests) throws IllegalAccessException {
+        Method[] methods = tests.getDeclaredMethods();
+        Arrays.sort(methods, Comparator.comparing(Method::getName));
+        int run = 0;
+        for (Method method : methods) {
+            if (method.getName().startsWith("promise")) {
+                run++;
+                try {
+                    method.invoke(null);
+                } catch (InvocationTargetException thrown) {
+                    tell(method.getName() + " threw " + thrown.getCause());
+                    thrown.getCause().printStackTrace(System.out);
+                }
+            }
+        }
+        if (run == 0) {
+            tell("no test method in " + tests.getName());
+        }
+        System.out.println(tests.getName() + ": " + run + " tests, " + checks + " checks, "
+            + wrong + " wrong");
+        if (wrong != 0) {
+            System.exit(1);
+        }
+    }
+
+    /** A new stack with cues of these numbers. */
+    static CueStack withCues(int... numbers) {
+        CueStack stack = new CueStack();
+        for (int number : numbers) {
+            stack.addCue(number);
+        }
+        return stack;
+    }
+
+    static void type(CueStack stack, String text) {
+        for (int index = 0; index < text.length(); index++) {
+            stack.append(text.charAt(index));
+        }
+    }
+}
