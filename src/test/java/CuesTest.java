@@ -37,13 +37,17 @@ final class CuesTest {
 
     static void promise02Clear() {
         CueStack stack = Checks.withCues(1, 2, 3);
-        stack.setHome(4, 7);
+        for (int channel = 0; channel < 12; channel++) {
+            stack.setHome(channel, 7);
+        }
         stack.set(1, 0, 50, 0, false);
         stack.setProtected(2, true);
         stack.setBlock(3, true);
         stack.setFollow(1, 5);
+        stack.setPart(1, 0, true, 50);
         stack.setPart(1, 0, false, 100);
         stack.save();
+        stack.pass(60);
         stack.go();
         stack.pass(3);
         Checks.dueThrow("unset", REFUSED, () -> stack.unset(3, 3, false));
@@ -68,7 +72,9 @@ final class CuesTest {
         Checks.due("input", stack.append(';'), 4 - 1);
         Checks.due("read", stack.read(), 1);
         Checks.due("cue of the input", stack.cueAt(0), 9);
-        Checks.due("home", stack.level(9, 4), 0);
+        for (int channel = 0; channel < 12; channel++) {
+            Checks.due("home", stack.level(9, channel), 0);
+        }
         Checks.due("restore", stack.restore(), 3);
         Checks.due("saved home", stack.level(2, 4), 7);
         Checks.due("clear", stack.clear(), 3);
@@ -100,6 +106,42 @@ final class CuesTest {
         Checks.due("undo", stack.undo(), 5);
         Checks.due("count", stack.account(0), 11);
         Checks.due("addCue(50)", stack.addCue(50), 12);
+    }
+
+    static void promise03IsNew() {
+        CueStack stack = Checks.withCues(1, 2);
+        for (int part = 0; part < 4; part++) {
+            stack.setPart(2, part, true, 5);
+            stack.setPart(2, part, false, 6);
+        }
+        stack.setFollow(2, 7);
+        stack.setBlock(2, true);
+        stack.set(2, 0, 8, 2, false);
+        stack.removeCue(2, false);
+        stack.addCue(2);
+        dueNew(stack, 2);
+        stack.setProtected(2, true);
+        stack.undo();
+        stack.undo();
+        stack.addCue(2);
+        dueNew(stack, 2);
+        stack.setProtected(2, true);
+        stack.clear();
+        stack.addCue(3);
+        stack.addCue(4);
+        dueNew(stack, 3);
+        dueNew(stack, 4);
+    }
+
+    private static void dueNew(CueStack stack, int cue) {
+        Checks.due("follow", stack.cue(cue, 1), -1);
+        for (int what = 2; what <= 6; what++) {
+            Checks.due("cue " + what, stack.cue(cue, what), 0);
+        }
+        for (int part = 0; part < 4; part++) {
+            Checks.due("delay", stack.part(cue, part, true), 0);
+            Checks.due("time", stack.part(cue, part, false), 0);
+        }
     }
 
     static void promise03CueBetweenTracks() {
@@ -364,6 +406,8 @@ final class CuesTest {
         Checks.due("length of part 0", stack.cue(3, 6), 1200);
         stack.setPart(2, 0, false, 600);
         Checks.due("none moves", stack.cue(2, 6), 0);
+        stack.set(1, 0, 11, 1, false);
+        Checks.due("channel 0 is the longest", stack.cue(1, 6), 600);
     }
 
     static void promise11Part() {

@@ -101,6 +101,21 @@ final class LevelsTest {
         Checks.due("no hold", stack.account(1), 5);
     }
 
+    static void promise13InTheLastCue() {
+        CueStack stack = Checks.withCues(1, 2, 3);
+        stack.removeCue(3, false);
+        Checks.due("a removed cue does not count", stack.set(1, 0, 1, 0, false), 2);
+        Checks.due("no next", stack.set(2, 0, 2, 0, true), 1);
+        Checks.due("none held", stack.account(1), 2);
+        for (int number = 3; number <= 12; number++) {
+            stack.addCue(number);
+        }
+        Checks.due("the last of 12", stack.set(12, 0, 3, 0, true), 1);
+        Checks.due("all 12", stack.set(1, 1, 3, 0, false), 12);
+        Checks.due("the last of 12", stack.unset(12, 0, true), 1);
+        Checks.due("the last of 12", stack.removeCue(12, true), 0);
+    }
+
     static void promise13HoldsALevelThatCameFromARelease() {
         CueStack stack = Checks.withCues(1, 2, 3);
         stack.setHome(0, 25);

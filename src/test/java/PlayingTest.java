@@ -361,6 +361,44 @@ final class PlayingTest {
         Checks.due("present", stack.account(2), 80);
     }
 
+    static void promise31CountsNothingThatIsNoMore() {
+        CueStack stack = Checks.withCues(1, 2);
+        stack.setProtected(2, true);
+        stack.setBlock(2, true);
+        stack.undo();
+        stack.undo();
+        stack.removeCue(2, false);
+        Checks.due("protected", stack.account(8), 0);
+        stack.addCue(2);
+        stack.setBlock(2, true);
+        stack.setProtected(2, true);
+        stack.undo();
+        stack.undo();
+        stack.undo();
+        stack.setBlock(1, true);
+        stack.setProtected(1, true);
+        Checks.due("cues", stack.account(0), 1);
+        Checks.due("blocks", stack.account(9), 1);
+        Checks.due("protected", stack.account(8), 1);
+    }
+
+    static void promise31Full() {
+        CueStack stack = Checks.withCues(1, 2, 3, 4, 5, 6, 7, 8, 9, 10, 11, 12);
+        for (int cue = 1; cue <= 12; cue++) {
+            stack.setBlock(cue, true);
+            for (int channel = 0; channel < 5; channel++) {
+                stack.release(cue, channel, 0, false);
+            }
+        }
+        for (int cue = 1; cue <= 12; cue++) {
+            stack.setProtected(cue, true);
+        }
+        Checks.due("instructions", stack.account(1), 60);
+        Checks.due("releases", stack.account(10), 60);
+        Checks.due("blocks", stack.account(9), 12);
+        Checks.due("protected", stack.account(8), 12);
+    }
+
     static void promise31CuesThatWent() {
         CueStack stack = Checks.withCues(1, 2, 3);
         stack.setFollow(2, 1);

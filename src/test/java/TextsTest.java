@@ -60,6 +60,8 @@ final class TextsTest {
         Checks.due("last", stack.playing(0), 30);
         Checks.due("since", stack.playing(1), 12);
         Checks.due("went", stack.account(5), 2);
+        dueRead(stack, "j1;", 1);
+        Checks.due("last", stack.playing(0), 1);
         stack.setPart(30, 0, false, 10);
         dueRead(stack, "s1/5@50;t6000;t6000;t0;t0000;", 5);
         Checks.due("passed", stack.account(6), 12012);
@@ -76,6 +78,9 @@ final class TextsTest {
         dueRead(stack, "s1/0@50;x1;", 2);
         Checks.due("level", stack.level(2, 0), 0);
         Checks.due("instructions", stack.account(1), 0);
+        stack.addCue(1);
+        stack.setProtected(2, true);
+        dueRead(stack, "s1/0@50;s1/0@40;r1/0;s1/0@30;x1;", 5);
     }
 
     static void promise34AllOrNothing() {
@@ -179,6 +184,10 @@ final class TextsTest {
         dueError(stack, "r1;", 2);
         dueError(stack, "r1/;", 3);
         dueError(stack, "r1/2@3;", 4);
+        dueError(stack, "r1g;", 2);
+        dueError(stack, "rg;", 1);
+        dueError(stack, "s1/2c3;", 4);
+        dueError(stack, "c1c2;", 2);
         dueError(stack, "r1/123;", 5);
         dueError(stack, "s1/2;", 4);
         dueError(stack, "s1@2;", 2);
@@ -197,7 +206,10 @@ final class TextsTest {
         stack.clear();
         Checks.due("it stays", stack.errorPosition(), 60);
         dueError(stack, "g;/", 2);
+        dueRead(stack, "t1;", 1);
+        dueError(stack, "", 0);
+        dueError(stack, "t", 1);
         dueNotDone(stack, "x9;");
-        Checks.due("a cue that is not there is no error", stack.errorPosition(), 2);
+        Checks.due("a cue that is not there is no error", stack.errorPosition(), 1);
     }
 }
