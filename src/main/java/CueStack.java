@@ -1213,15 +1213,16 @@ public final class CueStack {
 
         /** Returns -1 if the input is not a text; at is then the error position. */
         int countEntries() {
-            int entries = 0;
             at = 0;
-            do {
+            for (int entries = 1; entries <= MAX_INPUT; entries++) {
                 if (!readEntry()) {
                     return -1;
                 }
-                entries++;
-            } while (at < length);
-            return entries;
+                if (at >= length) {
+                    return entries;
+                }
+            }
+            return -1;
         }
 
         /** If there is no entry here, at is behind all that can begin one. */
