@@ -49,7 +49,9 @@ final class Checks {
         wrong++;
         StackTraceElement[] trace = new Throwable().getStackTrace();
         for (StackTraceElement place : trace) {
-            if (!place.getClassName().startsWith("Checks")) {
+            String name = place.getClassName();
+            if (!name.startsWith("Checks") && !name.startsWith("Bounds$")
+                    && !name.equals("Bounds")) {
                 System.out.println("  " + place.getClassName() + "." + place.getMethodName()
                     + " line " + place.getLineNumber() + ": " + text);
                 return;
@@ -58,19 +60,27 @@ final class Checks {
         System.out.println("  " + text);
     }
 
-    /** Runs all methods of the class whose names begin with promise, and ends with 1 if one fails. */
+    static boolean isTest(Method method) {
+        return method.getName().startsWith("promise") || method.isAnnotationPresent(Says.class);
+    }
+
+    /** Runs all test methods of the class, and ends with 1 if one fails or checks nothing. */
     static void runAll(Class<?> tests) throws IllegalAccessException {
         Method[] methods = tests.getDeclaredMethods();
         Arrays.sort(methods, Comparator.comparing(Method::getName));
         int run = 0;
         for (Method method : methods) {
-            if (method.getName().startsWith("promise")) {
+            if (isTest(method)) {
                 run++;
+                int before = checks;
                 try {
                     method.invoke(null);
                 } catch (InvocationTargetException thrown) {
                     tell(method.getName() + " threw " + thrown.getCause());
                     thrown.getCause().printStackTrace(System.out);
+                }
+                if (checks == before) {
+                    tell(method.getName() + " checked nothing");
                 }
             }
         }
@@ -81,21 +91,6 @@ final class Checks {
             + wrong + " wrong");
         if (wrong != 0) {
             System.exit(1);
-        }
-    }
-
-    /** A new stack with cues of these numbers. */
-    static CueStack withCues(int... numbers) {
-        CueStack stack = new CueStack();
-        for (int number : numbers) {
-            stack.addCue(number);
-        }
-        return stack;
-    }
-
-    static void type(CueStack stack, String text) {
-        for (int index = 0; index < text.length(); index++) {
-            stack.append(text.charAt(index));
         }
     }
 }

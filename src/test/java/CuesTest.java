@@ -36,7 +36,7 @@ final class CuesTest {
     }
 
     static void promise02Clear() {
-        CueStack stack = Checks.withCues(1, 2, 3);
+        CueStack stack = Stacks.withCues(1, 2, 3);
         for (int channel = 0; channel < 12; channel++) {
             stack.setHome(channel, 7);
         }
@@ -51,9 +51,9 @@ final class CuesTest {
         stack.go();
         stack.pass(3);
         Checks.dueThrow("unset", REFUSED, () -> stack.unset(3, 3, false));
-        Checks.type(stack, "zz");
+        Stacks.type(stack, "zz");
         Checks.dueThrow("read", BAD, stack::read);
-        Checks.type(stack, "c9");
+        Stacks.type(stack, "c9");
         Checks.due("clear", stack.clear(), 3);
         Checks.due("clear", stack.clear(), 0);
         for (int account = 0; account <= 10; account++) {
@@ -109,7 +109,7 @@ final class CuesTest {
     }
 
     static void promise03IsNew() {
-        CueStack stack = Checks.withCues(1, 2);
+        CueStack stack = Stacks.withCues(1, 2);
         for (int part = 0; part < 4; part++) {
             stack.setPart(2, part, true, 5);
             stack.setPart(2, part, false, 6);
@@ -145,7 +145,7 @@ final class CuesTest {
     }
 
     static void promise03CueBetweenTracks() {
-        CueStack stack = Checks.withCues(10, 30);
+        CueStack stack = Stacks.withCues(10, 30);
         stack.set(10, 2, 40, 0, false);
         stack.addCue(20);
         Checks.due("level", stack.level(20, 2), 40);
@@ -156,7 +156,7 @@ final class CuesTest {
     }
 
     static void promise04RemoveCue() {
-        CueStack stack = Checks.withCues(1, 2, 3);
+        CueStack stack = Stacks.withCues(1, 2, 3);
         Checks.dueThrow("no such cue", NO_INDEX, () -> stack.removeCue(4, false));
         Checks.dueThrow("no such cue", NO_INDEX, () -> stack.removeCue(0, true));
         stack.set(1, 0, 10, 0, false);
@@ -179,7 +179,7 @@ final class CuesTest {
     }
 
     static void promise04RemoveIsHeld() {
-        CueStack stack = Checks.withCues(1, 2, 3);
+        CueStack stack = Stacks.withCues(1, 2, 3);
         stack.set(1, 0, 10, 0, false);
         stack.set(2, 5, 50, 3, false);
         stack.set(2, 0, 20, 0, false);
@@ -197,7 +197,7 @@ final class CuesTest {
     }
 
     static void promise04RemoveHeldBesideBlocks() {
-        CueStack stack = Checks.withCues(1, 2, 3);
+        CueStack stack = Stacks.withCues(1, 2, 3);
         stack.set(1, 0, 10, 0, false);
         stack.set(1, 1, 11, 0, false);
         stack.setBlock(2, true);
@@ -207,7 +207,7 @@ final class CuesTest {
         Checks.due("held", stack.level(3, 1), 5);
         Checks.due("held with a level", stack.instruction(2, 2), 0);
         Checks.due("held with a level", stack.instruction(3, 2), 5);
-        CueStack behind = Checks.withCues(1, 2, 3);
+        CueStack behind = Stacks.withCues(1, 2, 3);
         behind.set(2, 0, 10, 0, false);
         behind.setBlock(3, true);
         behind.setProtected(3, true);
@@ -216,7 +216,7 @@ final class CuesTest {
     }
 
     static void promise04RemoveFirstHeld() {
-        CueStack stack = Checks.withCues(1, 2);
+        CueStack stack = Stacks.withCues(1, 2);
         stack.setHome(4, 40);
         stack.set(1, 4, 40, 0, false);
         stack.set(1, 2, 20, 1, false);
@@ -228,7 +228,7 @@ final class CuesTest {
     }
 
     static void promise04Refused() {
-        CueStack stack = Checks.withCues(1, 2, 3);
+        CueStack stack = Stacks.withCues(1, 2, 3);
         stack.set(2, 0, 10, 0, false);
         stack.setProtected(2, true);
         Checks.dueThrow("protected", REFUSED, () -> stack.removeCue(2, false));
@@ -243,7 +243,7 @@ final class CuesTest {
     }
 
     static void promise04RefusedFull() {
-        CueStack stack = Checks.withCues(1, 2, 3, 4, 5, 6, 7);
+        CueStack stack = Stacks.withCues(1, 2, 3, 4, 5, 6, 7);
         for (int cue = 1; cue <= 5; cue++) {
             for (int channel = 0; channel < 12; channel++) {
                 if (cue != 5 || channel > 0) {
@@ -269,7 +269,7 @@ final class CuesTest {
     }
 
     static void promise05CueAt() {
-        CueStack stack = Checks.withCues(50, 7, 99, 1, 23);
+        CueStack stack = Stacks.withCues(50, 7, 99, 1, 23);
         int[] due = {1, 7, 23, 50, 99};
         for (int index = 0; index < due.length; index++) {
             Checks.due("cueAt", stack.cueAt(index), due[index]);
@@ -287,7 +287,7 @@ final class CuesTest {
     }
 
     static void promise06SetFollow() {
-        CueStack stack = Checks.withCues(1, 2);
+        CueStack stack = Stacks.withCues(1, 2);
         Checks.due("setFollow", stack.setFollow(1, 6000), -1);
         Checks.due("setFollow", stack.setFollow(1, 1), 6000);
         Checks.dueThrow("0", BAD, () -> stack.setFollow(1, 0));
@@ -302,7 +302,7 @@ final class CuesTest {
     }
 
     static void promise07SetBlock() {
-        CueStack stack = Checks.withCues(1, 2, 3);
+        CueStack stack = Stacks.withCues(1, 2, 3);
         stack.set(1, 0, 10, 0, false);
         stack.set(1, 1, 11, 0, false);
         stack.set(1, 2, 12, 0, false);
@@ -326,7 +326,7 @@ final class CuesTest {
     }
 
     static void promise08SetProtected() {
-        CueStack stack = Checks.withCues(1);
+        CueStack stack = Stacks.withCues(1);
         Checks.due("was", stack.setProtected(1, true), false);
         Checks.due("was", stack.setProtected(1, true), true);
         Checks.dueThrow("set", REFUSED, () -> stack.set(1, 0, 1, 0, false));
@@ -338,7 +338,7 @@ final class CuesTest {
     }
 
     static void promise09SetPart() {
-        CueStack stack = Checks.withCues(4, 5);
+        CueStack stack = Stacks.withCues(4, 5);
         for (int part = 0; part < 4; part++) {
             Checks.due("delay", stack.setPart(4, part, true, part + 1), 0);
             Checks.due("time", stack.setPart(4, part, false, 600 - part), 0);
@@ -359,7 +359,7 @@ final class CuesTest {
     }
 
     static void promise10Cue() {
-        CueStack stack = Checks.withCues(10, 20, 30);
+        CueStack stack = Stacks.withCues(10, 20, 30);
         stack.setFollow(20, 44);
         stack.setBlock(20, true);
         stack.setProtected(30, true);
@@ -382,7 +382,7 @@ final class CuesTest {
     }
 
     static void promise10CueMoves() {
-        CueStack stack = Checks.withCues(1, 2, 3);
+        CueStack stack = Stacks.withCues(1, 2, 3);
         stack.setHome(0, 10);
         Checks.due("none", stack.cue(1, 5), 0);
         Checks.due("no length", stack.cue(1, 6), 0);
@@ -411,7 +411,7 @@ final class CuesTest {
     }
 
     static void promise11Part() {
-        CueStack stack = Checks.withCues(1);
+        CueStack stack = Stacks.withCues(1);
         stack.setPart(1, 3, true, 9);
         stack.setPart(1, 3, false, 8);
         Checks.due("delay", stack.part(1, 3, true), 9);

@@ -13,26 +13,6 @@ final class HistoryTest {
         Checks.runAll(HistoryTest.class);
     }
 
-    /** A stack in the midst of fades, with something of everything. */
-    private static CueStack busy() {
-        CueStack stack = Checks.withCues(10, 20, 30, 40);
-        stack.setHome(2, 5);
-        stack.set(10, 0, 80, 1, false);
-        stack.set(20, 0, 20, 2, false);
-        stack.release(20, 2, 3, false);
-        stack.set(30, 7, 70, 0, false);
-        stack.setPart(10, 1, false, 20);
-        stack.setPart(20, 2, true, 3);
-        stack.setPart(20, 2, false, 30);
-        stack.setFollow(20, 50);
-        stack.setBlock(40, true);
-        stack.go();
-        stack.pass(9);
-        stack.go();
-        stack.pass(4);
-        return stack;
-    }
-
     private static void dueUndone(String call, CueStack stack, Checks.Call change) {
         String before = Questions.answers(stack);
         stack.save();
@@ -62,7 +42,7 @@ final class HistoryTest {
     }
 
     static void promise36EveryChangeIsUndone() {
-        CueStack stack = busy();
+        CueStack stack = Stacks.busy();
         dueUndone("addCue", stack, () -> stack.addCue(15));
         dueUndone("removeCue", stack, () -> stack.removeCue(20, false));
         dueUndone("removeCue held", stack, () -> stack.removeCue(20, true));
@@ -80,13 +60,13 @@ final class HistoryTest {
         dueUndone("jump", stack, () -> stack.jump(40));
         dueUndone("pass", stack, () -> stack.pass(100));
         dueUndone("read", stack, () -> {
-            Checks.type(stack, "x10;c5;g;t8;");
+            Stacks.type(stack, "x10;c5;g;t8;");
             return stack.read();
         });
     }
 
     static void promise36AlsoIfNothingIsDifferent() {
-        CueStack stack = Checks.withCues(1);
+        CueStack stack = Stacks.withCues(1);
         stack.set(1, 0, 0, 0, false);
         stack.set(1, 0, 0, 0, false);
         stack.pass(0);
@@ -101,7 +81,7 @@ final class HistoryTest {
     }
 
     static void promise36WhatThrowsIsNoChange() {
-        CueStack stack = Checks.withCues(1);
+        CueStack stack = Stacks.withCues(1);
         stack.setProtected(1, true);
         String before = Questions.answers(stack);
         Checks.dueThrow("addCue", BAD, () -> stack.addCue(1));
@@ -128,7 +108,7 @@ final class HistoryTest {
             stack.addCue(number);
         }
         for (int time = 0; time < 8; time++) {
-            Checks.type(stack, "c20;x1;c20;");
+            Stacks.type(stack, "c20;x1;c20;");
             Checks.dueThrow("read", STATE, stack::read);
         }
         for (int left = 5; left >= 0; left--) {
@@ -138,7 +118,7 @@ final class HistoryTest {
     }
 
     static void promise36NotWhatTheHistoryLeaves() {
-        CueStack stack = Checks.withCues(1);
+        CueStack stack = Stacks.withCues(1);
         stack.save();
         stack.addCue(2);
         Checks.dueThrow("go", REFUSED, () -> stack.unset(1, 0, false));
@@ -154,7 +134,7 @@ final class HistoryTest {
     }
 
     static void promise37Save() {
-        CueStack stack = busy();
+        CueStack stack = Stacks.busy();
         Checks.due("save", stack.save(), 4);
         Checks.due("no change", stack.undo(), 5);
         stack.clear();
@@ -164,7 +144,7 @@ final class HistoryTest {
     }
 
     static void promise38Restore() {
-        CueStack stack = busy();
+        CueStack stack = Stacks.busy();
         Checks.dueThrow("nothing was saved", STATE, stack::restore);
         String before = Questions.answers(stack);
         stack.save();
@@ -186,7 +166,7 @@ final class HistoryTest {
     }
 
     static void promise38SavedIsAPlaceOfItsOwn() {
-        CueStack stack = busy();
+        CueStack stack = Stacks.busy();
         stack.save();
         stack.restore();
         stack.removeCue(20, false);

@@ -20,19 +20,8 @@ final class LevelsTest {
         Checks.due("part of " + index, stack.instruction(index, 3), part);
     }
 
-    /** Five cues with 12 instructions each, and two more cues without. */
-    private static CueStack full() {
-        CueStack stack = Checks.withCues(1, 2, 3, 4, 5, 6, 7);
-        for (int cue = 1; cue <= 5; cue++) {
-            for (int channel = 0; channel < 12; channel++) {
-                stack.set(cue, channel, cue, 0, false);
-            }
-        }
-        return stack;
-    }
-
     static void promise12SetHome() {
-        CueStack stack = Checks.withCues(1, 2);
+        CueStack stack = Stacks.withCues(1, 2);
         stack.set(1, 0, 30, 0, false);
         stack.release(2, 0, 0, false);
         Checks.due("setHome", stack.setHome(0, 100), 0);
@@ -51,7 +40,7 @@ final class LevelsTest {
     }
 
     static void promise13Set() {
-        CueStack stack = Checks.withCues(1, 2, 3, 4);
+        CueStack stack = Stacks.withCues(1, 2, 3, 4);
         Checks.due("tracks on", stack.set(1, 5, 50, 0, false), 4);
         Checks.due("tracks on", stack.set(3, 5, 70, 1, false), 2);
         Checks.due("up to the next", stack.set(1, 5, 60, 2, false), 2);
@@ -66,7 +55,7 @@ final class LevelsTest {
     }
 
     static void promise13SetWrong() {
-        CueStack stack = Checks.withCues(1, 2);
+        CueStack stack = Stacks.withCues(1, 2);
         Checks.dueThrow("no cue", NO_INDEX, () -> stack.set(3, 0, 0, 0, false));
         Checks.dueThrow("no cue first", NO_INDEX, () -> stack.set(3, 0, 101, 0, false));
         Checks.dueThrow("no channel", NO_INDEX, () -> stack.set(1, 12, 0, 0, false));
@@ -84,7 +73,7 @@ final class LevelsTest {
     }
 
     static void promise13SetHeld() {
-        CueStack stack = Checks.withCues(1, 2, 3);
+        CueStack stack = Stacks.withCues(1, 2, 3);
         stack.set(1, 0, 30, 0, false);
         Checks.due("held", stack.set(1, 0, 40, 2, true), 1);
         Checks.due("level", stack.level(3, 0), 30);
@@ -102,7 +91,7 @@ final class LevelsTest {
     }
 
     static void promise13InTheLastCue() {
-        CueStack stack = Checks.withCues(1, 2, 3);
+        CueStack stack = Stacks.withCues(1, 2, 3);
         stack.removeCue(3, false);
         Checks.due("a removed cue does not count", stack.set(1, 0, 1, 0, false), 2);
         Checks.due("no next", stack.set(2, 0, 2, 0, true), 1);
@@ -117,7 +106,7 @@ final class LevelsTest {
     }
 
     static void promise13HoldsALevelThatCameFromARelease() {
-        CueStack stack = Checks.withCues(1, 2, 3);
+        CueStack stack = Stacks.withCues(1, 2, 3);
         stack.setHome(0, 25);
         stack.set(1, 0, 30, 0, false);
         stack.release(2, 0, 3, false);
@@ -126,7 +115,7 @@ final class LevelsTest {
     }
 
     static void promise13HeldAndProtected() {
-        CueStack stack = Checks.withCues(1, 2, 3);
+        CueStack stack = Stacks.withCues(1, 2, 3);
         stack.setProtected(2, true);
         Checks.dueThrow("the next would get one", REFUSED, () -> stack.set(1, 0, 5, 0, true));
         Checks.due("reason", stack.reason(), 1);
@@ -138,7 +127,7 @@ final class LevelsTest {
     }
 
     static void promise13Full() {
-        CueStack stack = full();
+        CueStack stack = Stacks.full();
         Checks.due("instructions", stack.account(1), 60);
         Checks.due("anew in its place", stack.set(1, 3, 77, 1, false), 1);
         dueInstruction(stack, 3, 1, 3, 77, 1);
@@ -164,7 +153,7 @@ final class LevelsTest {
     }
 
     static void promise14Release() {
-        CueStack stack = Checks.withCues(1, 2, 3);
+        CueStack stack = Stacks.withCues(1, 2, 3);
         stack.setHome(2, 15);
         stack.set(1, 2, 60, 0, false);
         Checks.due("release", stack.release(2, 2, 3, false), 2);
@@ -181,7 +170,7 @@ final class LevelsTest {
     }
 
     static void promise14ReleaseHeld() {
-        CueStack stack = Checks.withCues(1, 2, 3);
+        CueStack stack = Stacks.withCues(1, 2, 3);
         stack.set(1, 2, 60, 0, false);
         Checks.due("held", stack.release(1, 2, 0, true), 1);
         Checks.due("level", stack.level(3, 2), 60);
@@ -194,7 +183,7 @@ final class LevelsTest {
     }
 
     static void promise14ReleaseWrong() {
-        CueStack stack = full();
+        CueStack stack = Stacks.full();
         Checks.dueThrow("no cue", NO_INDEX, () -> stack.release(8, 0, 0, false));
         Checks.dueThrow("no channel", NO_INDEX, () -> stack.release(1, 12, 0, false));
         Checks.dueThrow("no part", NO_INDEX, () -> stack.release(1, 0, 4, false));
@@ -209,7 +198,7 @@ final class LevelsTest {
     }
 
     static void promise15Unset() {
-        CueStack stack = Checks.withCues(1, 2, 3, 4);
+        CueStack stack = Stacks.withCues(1, 2, 3, 4);
         stack.set(1, 0, 10, 0, false);
         stack.set(2, 0, 20, 2, false);
         stack.set(2, 1, 21, 0, false);
@@ -235,7 +224,7 @@ final class LevelsTest {
     }
 
     static void promise15UnsetHeld() {
-        CueStack stack = full();
+        CueStack stack = Stacks.full();
         Checks.due("goes and comes at 60", stack.unset(5, 7, true), 1);
         Checks.due("instructions", stack.account(1), 60);
         dueInstruction(stack, 59, 6, 7, 5, 0);
@@ -256,7 +245,7 @@ final class LevelsTest {
     }
 
     static void promise16Instruction() {
-        CueStack stack = Checks.withCues(1, 2);
+        CueStack stack = Stacks.withCues(1, 2);
         Checks.dueThrow("none", NONE, () -> stack.instruction(0, 0));
         stack.set(2, 11, 100, 3, false);
         stack.release(1, 0, 2, false);
@@ -277,7 +266,7 @@ final class LevelsTest {
     }
 
     static void promise17Level() {
-        CueStack stack = Checks.withCues(1, 2, 3, 4, 5);
+        CueStack stack = Stacks.withCues(1, 2, 3, 4, 5);
         stack.setHome(0, 9);
         dueLevels(stack, 0, 9, 9, 9, 9, 9);
         stack.set(2, 0, 20, 0, false);
@@ -304,7 +293,7 @@ final class LevelsTest {
     }
 
     static void promise18LevelAgain() {
-        CueStack stack = Checks.withCues(3, 6);
+        CueStack stack = Stacks.withCues(3, 6);
         stack.set(3, 1, 44, 0, false);
         Checks.due("levelAgain", stack.levelAgain(6, 1), 44);
         stack.setBlock(6, true);
@@ -316,7 +305,7 @@ final class LevelsTest {
     }
 
     static void promise19Source() {
-        CueStack stack = Checks.withCues(11, 22, 33, 44);
+        CueStack stack = Stacks.withCues(11, 22, 33, 44);
         Checks.due("the first one", stack.source(44, 0), 11);
         Checks.due("itself", stack.source(11, 0), 11);
         stack.set(22, 0, 5, 0, false);
@@ -335,7 +324,7 @@ final class LevelsTest {
     }
 
     static void promise20Sum() {
-        CueStack stack = Checks.withCues(1, 2);
+        CueStack stack = Stacks.withCues(1, 2);
         for (int channel = 0; channel < 12; channel++) {
             stack.set(1, channel, 100, 0, false);
         }
@@ -349,7 +338,7 @@ final class LevelsTest {
     }
 
     static void promise21Apart() {
-        CueStack stack = Checks.withCues(1, 2, 3);
+        CueStack stack = Stacks.withCues(1, 2, 3);
         stack.set(2, 0, 1, 0, false);
         stack.set(2, 11, 1, 0, false);
         stack.set(3, 5, 1, 0, false);
@@ -362,7 +351,7 @@ final class LevelsTest {
     }
 
     static void promise22Reason() {
-        CueStack stack = Checks.withCues(1, 2);
+        CueStack stack = Stacks.withCues(1, 2);
         Checks.dueThrow("none", NONE, stack::reason);
         Checks.dueThrow("5", REFUSED, stack::back);
         Checks.due("reason", stack.reason(), 5);

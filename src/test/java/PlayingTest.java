@@ -13,7 +13,7 @@ final class PlayingTest {
     }
 
     static void promise23Go() {
-        CueStack stack = Checks.withCues(10, 20, 30);
+        CueStack stack = Stacks.withCues(10, 20, 30);
         Checks.due("go", stack.go(), 10);
         Checks.due("go", stack.go(), 20);
         stack.removeCue(20, false);
@@ -33,7 +33,7 @@ final class PlayingTest {
     }
 
     static void promise23GoFades() {
-        CueStack stack = Checks.withCues(1, 2, 3);
+        CueStack stack = Stacks.withCues(1, 2, 3);
         stack.set(1, 0, 80, 0, false);
         stack.set(2, 0, 20, 1, false);
         stack.set(2, 1, 50, 2, false);
@@ -68,7 +68,7 @@ final class PlayingTest {
     }
 
     static void promise23TargetsThatStayGoOn() {
-        CueStack stack = Checks.withCues(1, 2);
+        CueStack stack = Stacks.withCues(1, 2);
         stack.set(1, 0, 100, 0, false);
         stack.setPart(1, 0, false, 100);
         stack.setPart(2, 0, false, 10);
@@ -81,7 +81,7 @@ final class PlayingTest {
     }
 
     static void promise24Back() {
-        CueStack stack = Checks.withCues(10, 20, 30);
+        CueStack stack = Stacks.withCues(10, 20, 30);
         Checks.dueThrow("none went", REFUSED, stack::back);
         Checks.due("reason", stack.reason(), 5);
         stack.go();
@@ -104,7 +104,7 @@ final class PlayingTest {
     }
 
     static void promise25Jump() {
-        CueStack stack = Checks.withCues(1, 2, 3);
+        CueStack stack = Stacks.withCues(1, 2, 3);
         stack.set(1, 0, 1, 0, false);
         stack.set(1, 1, 2, 0, false);
         stack.set(2, 1, 3, 0, false);
@@ -127,7 +127,7 @@ final class PlayingTest {
     }
 
     static void promise26Pass() {
-        CueStack stack = Checks.withCues(1, 2, 3, 4);
+        CueStack stack = Stacks.withCues(1, 2, 3, 4);
         stack.setFollow(1, 5);
         stack.setFollow(2, 1);
         stack.setFollow(4, 1);
@@ -151,7 +151,7 @@ final class PlayingTest {
     }
 
     static void promise26OneCueATenth() {
-        CueStack stack = Checks.withCues(1, 2, 3);
+        CueStack stack = Stacks.withCues(1, 2, 3);
         stack.setFollow(2, 1);
         stack.go();
         stack.pass(50);
@@ -164,7 +164,7 @@ final class PlayingTest {
     }
 
     static void promise26RemovedDoesNotFollow() {
-        CueStack stack = Checks.withCues(1, 2);
+        CueStack stack = Stacks.withCues(1, 2);
         stack.setFollow(1, 3);
         stack.go();
         stack.removeCue(1, false);
@@ -175,7 +175,7 @@ final class PlayingTest {
     }
 
     static void promise26FadesInAPass() {
-        CueStack stack = Checks.withCues(1, 2);
+        CueStack stack = Stacks.withCues(1, 2);
         stack.set(1, 0, 100, 0, false);
         stack.setPart(1, 0, false, 10);
         stack.setPart(2, 0, true, 2);
@@ -188,7 +188,7 @@ final class PlayingTest {
     }
 
     static void promise26Limits() {
-        CueStack stack = Checks.withCues(1, 2);
+        CueStack stack = Stacks.withCues(1, 2);
         Checks.dueThrow("-1", BAD, () -> stack.pass(-1));
         Checks.dueThrow("6001", BAD, () -> stack.pass(6001));
         Checks.dueThrow("most", BAD, () -> stack.pass(Integer.MAX_VALUE));
@@ -211,7 +211,7 @@ final class PlayingTest {
     }
 
     static void promise27Now() {
-        CueStack stack = Checks.withCues(1, 2);
+        CueStack stack = Stacks.withCues(1, 2);
         stack.set(1, 0, 10, 0, false);
         stack.set(1, 1, 100, 1, false);
         stack.setPart(1, 0, true, 3);
@@ -237,7 +237,7 @@ final class PlayingTest {
     }
 
     static void promise28Target() {
-        CueStack stack = Checks.withCues(1, 2);
+        CueStack stack = Stacks.withCues(1, 2);
         stack.set(1, 11, 40, 0, false);
         stack.setPart(1, 0, false, 600);
         stack.setHome(3, 30);
@@ -260,7 +260,7 @@ final class PlayingTest {
     }
 
     static void promise29Playing() {
-        CueStack stack = Checks.withCues(5, 6, 7);
+        CueStack stack = Stacks.withCues(5, 6, 7);
         Checks.due("next", stack.playing(2), 5);
         Checks.due("until", stack.playing(4), -1);
         stack.setFollow(5, 10);
@@ -292,7 +292,7 @@ final class PlayingTest {
     }
 
     static void promise29Fading() {
-        CueStack stack = Checks.withCues(1, 2);
+        CueStack stack = Stacks.withCues(1, 2);
         stack.set(1, 0, 40, 0, false);
         stack.set(1, 4, 40, 1, false);
         stack.set(1, 11, 40, 2, false);
@@ -316,7 +316,7 @@ final class PlayingTest {
     }
 
     static void promise30Chain() {
-        CueStack stack = Checks.withCues(1, 2, 3, 4);
+        CueStack stack = Stacks.withCues(1, 2, 3, 4);
         Checks.due("none", stack.chain(1), 0);
         stack.setFollow(1, 6000);
         stack.setFollow(2, 5);
@@ -333,7 +333,7 @@ final class PlayingTest {
     }
 
     static void promise31Account() {
-        CueStack stack = Checks.withCues(1, 2, 3);
+        CueStack stack = Stacks.withCues(1, 2, 3);
         stack.set(1, 0, 50, 0, false);
         stack.set(1, 1, 30, 0, false);
         stack.set(2, 1, 30, 0, false);
@@ -362,7 +362,7 @@ final class PlayingTest {
     }
 
     static void promise31CountsNothingThatIsNoMore() {
-        CueStack stack = Checks.withCues(1, 2);
+        CueStack stack = Stacks.withCues(1, 2);
         stack.setProtected(2, true);
         stack.setBlock(2, true);
         stack.undo();
@@ -383,7 +383,7 @@ final class PlayingTest {
     }
 
     static void promise31Full() {
-        CueStack stack = Checks.withCues(1, 2, 3, 4, 5, 6, 7, 8, 9, 10, 11, 12);
+        CueStack stack = Stacks.withCues(1, 2, 3, 4, 5, 6, 7, 8, 9, 10, 11, 12);
         for (int cue = 1; cue <= 12; cue++) {
             stack.setBlock(cue, true);
             for (int channel = 0; channel < 5; channel++) {
@@ -400,7 +400,7 @@ final class PlayingTest {
     }
 
     static void promise31CuesThatWent() {
-        CueStack stack = Checks.withCues(1, 2, 3);
+        CueStack stack = Stacks.withCues(1, 2, 3);
         stack.setFollow(2, 1);
         stack.go();
         stack.go();
@@ -408,7 +408,7 @@ final class PlayingTest {
         stack.back();
         stack.jump(1);
         Checks.due("went", stack.account(5), 5);
-        Checks.type(stack, "g;j2;t1;");
+        Stacks.type(stack, "g;j2;t1;");
         stack.read();
         Checks.due("went", stack.account(5), 8);
         stack.undo();
@@ -416,7 +416,7 @@ final class PlayingTest {
     }
 
     static void promise32MeanLevel() {
-        CueStack stack = Checks.withCues(1);
+        CueStack stack = Stacks.withCues(1);
         Checks.dueDouble("meanLevel", stack.meanLevel(), 0.0);
         stack.set(1, 0, 7, 0, false);
         stack.set(1, 3, 100, 0, false);

@@ -271,7 +271,7 @@ final class RandomRunsTest {
     private static Named read(String text) {
         return new Named("read", text) {
             public long of(CueStack s) {
-                Checks.type(s, text);
+                Stacks.type(s, text);
                 return s.read();
             }
             public long ofPlain(PlainStack p) {

@@ -11,17 +11,17 @@ final class TextsTest {
     }
 
     private static void dueRead(CueStack stack, String text, int entries) {
-        Checks.type(stack, text);
+        Stacks.type(stack, text);
         Checks.due("read of " + text, stack.read(), entries);
     }
 
     private static void dueNotDone(CueStack stack, String text) {
-        Checks.type(stack, text);
+        Stacks.type(stack, text);
         Checks.dueThrow("read of " + text, STATE, stack::read);
     }
 
     private static void dueError(CueStack stack, String text, int position) {
-        Checks.type(stack, text);
+        Stacks.type(stack, text);
         Checks.dueThrow("read of " + text, BAD, stack::read);
         Checks.due("errorPosition of " + text, stack.errorPosition(), position);
     }
@@ -70,7 +70,7 @@ final class TextsTest {
     }
 
     static void promise34NothingIsHeld() {
-        CueStack stack = Checks.withCues(1, 2);
+        CueStack stack = Stacks.withCues(1, 2);
         dueRead(stack, "s1/0@50;", 1);
         Checks.due("level", stack.level(2, 0), 50);
         dueRead(stack, "r1/0;", 1);
@@ -84,7 +84,7 @@ final class TextsTest {
     }
 
     static void promise34AllOrNothing() {
-        CueStack stack = Checks.withCues(1, 2);
+        CueStack stack = Stacks.withCues(1, 2);
         stack.set(1, 0, 10, 0, false);
         stack.go();
         stack.pass(3);
@@ -101,7 +101,7 @@ final class TextsTest {
     }
 
     static void promise34CannotBeDone() {
-        CueStack stack = Checks.withCues(1, 2);
+        CueStack stack = Stacks.withCues(1, 2);
         for (String text : new String[] {"c0;", "c1;", "x3;", "x0;", "s3/0@0;", "s1/12@0;",
                 "s1/0@101;", "s1/99@999;", "r3/0;", "r1/12;", "j3;", "j00;", "t6001;", "t9999;"}) {
             dueNotDone(stack, text);
@@ -122,7 +122,7 @@ final class TextsTest {
     }
 
     static void promise34Refused() {
-        CueStack stack = Checks.withCues(1, 2);
+        CueStack stack = Stacks.withCues(1, 2);
         stack.set(2, 0, 10, 0, false);
         dueNotDone(stack, "g;g;g;");
         Checks.due("reason", stack.reason(), 4);
@@ -159,7 +159,7 @@ final class TextsTest {
     }
 
     static void promise35ErrorPosition() {
-        CueStack stack = Checks.withCues(1, 2);
+        CueStack stack = Stacks.withCues(1, 2);
         Checks.dueThrow("none", NONE, stack::errorPosition);
         dueError(stack, "", 0);
         dueError(stack, "q", 0);
