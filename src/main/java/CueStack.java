@@ -44,14 +44,14 @@ public final class CueStack {
     public CueStack() {
     }
 
+    // ---- cues
+
     public int clear() {
         int before = show.cues.count;
         show.makeNew();
         history.forgetAll();
         return before;
     }
-
-    // ---- cues
 
     public int addCue(int number) throws IllegalArgumentException, IllegalStateException {
         if (!isFreeNumber(number)) {

@@ -3,8 +3,11 @@ import java.lang.reflect.Method;
 import java.util.Arrays;
 import java.util.Comparator;
 
-/** What the tests share: checks that count, and a run of all test methods of a class. */
-final class Checks {
+/**
+ * What the tests share: checks that count, and a run of all test methods of a class. Public because
+ * the examples of README.md, which another loader loads, are checked by it too.
+ */
+public final class Checks {
     private static int checks = 0;
     private static int wrong = 0;
 
@@ -12,29 +15,29 @@ final class Checks {
     }
 
     /** A call that answers a number, and may throw. */
-    interface Call {
+    public interface Call {
         long answer();
     }
 
-    static void due(String call, long got, long want) {
+    public static void due(String call, long got, long want) {
         checks++;
         if (got != want) {
             tell(call + " answered " + got + ", due is " + want);
         }
     }
 
-    static void due(String call, boolean got, boolean want) {
+    public static void due(String call, boolean got, boolean want) {
         due(call, got ? 1 : 0, want ? 1 : 0);
     }
 
-    static void dueDouble(String call, double got, double want) {
+    public static void dueDouble(String call, double got, double want) {
         checks++;
         if (got != want) {
             tell(call + " answered " + got + ", due is " + want);
         }
     }
 
-    static void dueThrow(String call, Class<? extends RuntimeException> want, Call called) {
+    public static void dueThrow(String call, Class<? extends RuntimeException> want, Call called) {
         checks++;
         try {
             tell(call + " answered " + called.answer() + ", due is " + want.getSimpleName());

@@ -6,10 +6,13 @@ import java.lang.reflect.Method;
 import java.lang.reflect.Modifier;
 import java.nio.file.Files;
 import java.nio.file.Path;
+import java.util.ArrayList;
 import java.util.Arrays;
 import java.util.List;
+import java.util.Map;
 import java.util.Set;
 import java.util.TreeSet;
+import java.util.regex.Matcher;
 import java.util.regex.Pattern;
 
 /** The face of the class, what can be seen of ../shared/LANGUAGE.md, and the room that runs need. */
@@ -98,6 +101,46 @@ final class FaceTest {
         Checks.due("final", Modifier.isFinal(CueStack.class.getModifiers()), true);
         for (Field field : CueStack.class.getDeclaredFields()) {
             Checks.due("private: " + field, Modifier.isPrivate(field.getModifiers()), true);
+        }
+    }
+
+    private static String source() throws IOException {
+        return Files.readString(Path.of("src/main/java/CueStack.java"));
+    }
+
+    /** The constructor and the methods stand as in the document, in its order. */
+    static void promise01To38FaceOfTheDocument() throws IOException {
+        Checks.due("the class", source().contains("\npublic final class CueStack {\n"), true);
+        if (!Document.isThere()) {
+            return;
+        }
+        List<String> face = Document.face();
+        Checks.due("calls of the face", face.size(), FACE.length + 1);
+        Matcher written = Pattern.compile("\n    (public [^;{]*\\([^;{]*)\\{").matcher(source());
+        for (String due : face) {
+            String got = written.find() ? Document.inOneLine(written.group(1)) : "nothing";
+            Checks.due("there is " + got + ", due is " + due, got.equals(due), true);
+        }
+        Checks.due("nothing else", written.find(), false);
+    }
+
+    /** What the interface says ahead of its calls stands ahead of them alone. */
+    static void promise01To38WordsAheadOfCalls() throws IOException {
+        if (!Document.isThere()) {
+            return;
+        }
+        Map<String, List<String>> groups = Document.groups();
+        Checks.due("groups", groups.size(), 5);
+        for (Map.Entry<String, List<String>> group : groups.entrySet()) {
+            String[] pieces = source().split("\n    // " + group.getKey() + "\n");
+            Checks.due("said once: " + group.getKey(), pieces.length, 2);
+            List<String> calls = new ArrayList<>();
+            String behind = pieces[pieces.length - 1].split("\n    // ----")[0];
+            Matcher call = Pattern.compile("\n    public \\w+ (\\w+)\\(").matcher(behind);
+            while (call.find()) {
+                calls.add(call.group(1));
+            }
+            Checks.due(group + ", got " + calls, calls.equals(group.getValue()), true);
         }
     }
 

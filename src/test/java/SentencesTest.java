@@ -1,7 +1,5 @@
 import java.io.IOException;
 import java.lang.reflect.Method;
-import java.nio.file.Files;
-import java.nio.file.Path;
 import java.util.ArrayList;
 import java.util.Arrays;
 import java.util.HashSet;
@@ -13,8 +11,6 @@ import java.util.regex.Pattern;
 
 /** Each sentence of the document that names a boundary has a test of its own. */
 final class SentencesTest {
-    private static final Path DOCUMENT = Path.of("../shared/DOC.md");
-
     private static final List<Class<?>> TESTS = Arrays.asList(TermsCuesTest.class,
         TermsPlayingTest.class, TermsTextsTest.class, TermsPreciselyTest.class,
         BoundsCuesTest.class, BoundsLevelsTest.class, BoundsPlayingTest.class,
@@ -61,7 +57,7 @@ final class SentencesTest {
     /** The sentences of the part "Terms", by 0, and of the promises, by their numbers. */
     private static TreeMap<Integer, List<String>> sentences() throws IOException {
         TreeMap<Integer, List<String>> found = new TreeMap<>();
-        for (String part : Files.readString(DOCUMENT).split("(?m)^## ")) {
+        for (String part : Document.text().split("(?m)^## ")) {
             int end = part.indexOf('\n');
             String title = end < 0 ? part : part.substring(0, end);
             Matcher promise = Pattern.compile("Promise (\\d+): .*").matcher(title);
@@ -75,15 +71,11 @@ final class SentencesTest {
         return found;
     }
 
-    private static String inOneLine(String paragraph) {
-        return paragraph.strip().replaceAll("\\s+", " ");
-    }
-
     /** What stands between full stops, semicolons and colons, without the headings. */
     private static List<String> clausesOfTerms(String part) {
         List<String> found = new ArrayList<>();
         for (String paragraph : part.strip().split("\\n\\s*\\n")) {
-            String text = inOneLine(paragraph);
+            String text = Document.inOneLine(paragraph);
             if (!text.startsWith("Ahead of the calls")) {
                 String behindHeading = text.replaceFirst("^[A-Z][a-z]*( [a-z]+){0,2}\\. ", "");
                 found.addAll(Arrays.asList(behindHeading.split("(?<=[.;:]) ")));
@@ -96,7 +88,7 @@ final class SentencesTest {
     private static List<String> sentencesOfPromise(String part) {
         List<String> found = new ArrayList<>();
         for (String paragraph : part.strip().split("\\n\\s*\\n|\\n(?=- )")) {
-            String text = inOneLine(paragraph);
+            String text = Document.inOneLine(paragraph);
             if (text.startsWith("- ")) {
                 if (text.matches(".*\\d.*")) {
                     found.add(text.substring(2));
@@ -123,12 +115,8 @@ final class SentencesTest {
     }
 
     private static boolean isThere() {
-        boolean isThere = Files.exists(DOCUMENT);
-        if (!isThere) {
-            System.out.println("  " + DOCUMENT + " is not there, so no sentence is looked up");
-        }
         Checks.due("there are tests of sentences", quotes().isEmpty(), false);
-        return isThere;
+        return Document.isThere();
     }
 
     static void promise01To38TestsQuoteTheDocument() throws IOException {
